@@ -267,14 +267,14 @@ public final class Takeoff {
     }
 
     public int cheapestVariants() {
-        int cheapest = variantsOn;
-        long least = totalWith(variantsOn);
+        int cheapest = NOTHING;
+        long least = 0;
         int sets = 1 << plan.variants.size();
         for (int set = 0; set < sets; set++) {
             if (estimate.choose(set)) {
                 estimate.workOutCosts();
                 long sum = estimate.totalCost();
-                if (sum < least || (sum == least && set < cheapest)) {
+                if (cheapest == NOTHING || sum < least) {
                     cheapest = set;
                     least = sum;
                 }

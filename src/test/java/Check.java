@@ -36,10 +36,18 @@ final class Check {
     static void thrown(String what, Class<? extends RuntimeException> want, Runnable call) {
         try {
             call.run();
-            compare(what, want.getName(), "nothing thrown");
+            compare(what, want.getSimpleName(), "nothing thrown");
         } catch (RuntimeException e) {
-            compare(what, want.getName(), e.getClass().getName());
+            compare(what, want.getSimpleName(), nameOf(e));
         }
+    }
+
+    /** An exception that the machine or its library has thrown gets another name than one of the class's own. */
+    static String nameOf(RuntimeException e) {
+        StackTraceElement[] trace = e.getStackTrace();
+        boolean isOwn = trace.length > 0 && trace[0].getClassName().startsWith("Takeoff")
+            && !"/ by zero".equals(e.getMessage());
+        return (isOwn ? "" : "the machine's ") + e.getClass().getSimpleName();
     }
 
     static void compare(String what, String want, String got) {

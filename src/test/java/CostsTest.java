@@ -9,6 +9,11 @@ public final class CostsTest {
         packsAtTheEdges();
         costs();
         costsWithVariants();
+        tradesOfManyItems();
+        membersThatMeanTheSame();
+        askedFirst();
+        askedAfterOtherSets();
+        fullObject();
         dearest();
         dearestOfEqualOnes();
         share();
@@ -151,6 +156,110 @@ public final class CostsTest {
         Check.dueFlag("sound", true, () -> x.isSound());
     }
 
+    private static void tradesOfManyItems() {
+        Takeoff x = new Takeoff();
+        x.addResource(Takeoff.MATERIAL, 1, 0, 1);
+        int[] trades = {1, 1, 5, 5};
+        for (int k = 0; k < 4; k++) {
+            x.addItem(trades[k]);
+            x.addUse(k, 0, 1 + k);
+        }
+        x.addPart(0, 1, 2);
+        x.addPart(1, 2, 3);
+        x.addPart(1, 3, 1);
+        x.addLine(0);
+        x.addLine(1);
+        x.addRow(0, 'n', 10, 0, 0, 0);
+        x.addRow(1, 'n', 1, 0, 0, 0);
+        Check.due("10 of item 0, 21 of item 1", 10 + 42, () -> x.costOfTrade(1));
+        Check.due("63 of item 2, 21 of item 3", 189 + 84, () -> x.costOfTrade(5));
+        Check.due("all of them", 325, () -> x.net());
+    }
+
+    private static void membersThatMeanTheSame() {
+        Takeoff x = house();
+        x.addResource(Takeoff.PLANT, 9, 0, 1);
+        x.addMember(0, 3, 4);
+        x.addVariant();
+        x.replaceResource(0, 3, 2);
+        x.turn(0, true);
+        Check.due("amount", 500, () -> x.amount(2));
+        Check.due("amountByTree", 500, () -> x.amountByTree(2));
+        Check.due("none of the replaced one", 0, () -> x.amount(3));
+    }
+
+    /** No answer may rest on an earlier question. */
+    private static void askedFirst() {
+        Check.due("depthOf", 2, () -> house().depthOf(1));
+        Check.due("unitCost", 2180, () -> house().unitCost(1));
+        Check.due("needed", 11, () -> house().needed(1, 0));
+        Check.due("amount", 45, () -> house().amount(0));
+        Check.due("amountByTree", 45, () -> house().amountByTree(0));
+        Check.due("packs", 9, () -> house().packs(0));
+        Check.due("costOfLine", 6540, () -> house().costOfLine(0));
+        Check.due("costOfTrade", 10400, () -> house().costOfTrade(4));
+        Check.due("costOfKind", 9000, () -> house().costOfKind(1));
+        Check.due("net", 10700, () -> house().net());
+        Check.due("extra", 2380, () -> house().extra());
+        Check.due("total", 13080, () -> house().total());
+        Check.due("dearest", 2, () -> house().dearest(2));
+        Check.dueReal("share", 900f / 10700f, () -> house().share(0));
+        Check.dueReal("factor", 13080d / 10700d, () -> house().factor());
+        Check.dueFlag("isSound", true, () -> house().isSound());
+        Check.due("cheapestVariants", 0, () -> house().cheapestVariants());
+    }
+
+    /** Nor on a question, or a call that throws, for which other variants were tried. */
+    private static void askedAfterOtherSets() {
+        Takeoff x = house();
+        x.addVariant();
+        x.replaceResource(x.addVariant(), 0, x.addResource(Takeoff.MATERIAL, 0, 0, 1));
+        x.replaceItem(0, 0, 1);
+        Check.due("cheapestVariants", 2, () -> x.cheapestVariants());
+        Check.due("amountByTree", 45, () -> x.amountByTree(0));
+        x.difference(1);
+        Check.due("amountByTree", 45, () -> x.amountByTree(0));
+        Check.thrown("difference", UnsupportedOperationException.class, () -> x.difference(0));
+        Check.due("amountByTree", 45, () -> x.amountByTree(0));
+        Check.thrown("turn", UnsupportedOperationException.class, () -> x.turn(0, true));
+        Check.due("depthOf", 1, () -> x.depthOf(0));
+        Check.thrown("turn", UnsupportedOperationException.class, () -> x.turn(0, true));
+        Check.due("amount", 45, () -> x.amount(0));
+    }
+
+    /** As much of everything as there can be: each of 12 items uses one of 12 resources. */
+    private static void fullObject() {
+        Takeoff x = new Takeoff();
+        for (int k = 0; k < 12; k++) {
+            x.addResource(k % 3, 1, 0, 1);
+            x.addItem(k % 6);
+            x.addUse(k, k, 1);
+        }
+        x.addPart(11, 10, 9);
+        x.addPart(10, 9, 9);
+        for (int k = 0; k < 10; k++) {
+            x.addLine(k + 2);
+            x.addRow(k, 'n', 1 + k, 0, 0, 0);
+        }
+        for (int k = 0; k < 4; k++) {
+            x.addCrew();
+            x.addVariant();
+            x.replaceItem(k, k, k + 1);
+            x.addMarkup(10, 1);
+        }
+        Check.due("the deepest", 3, () -> x.depthOf(11));
+        Check.due("9 for line 8, 90 for line 9", 99, () -> x.amount(10));
+        Check.due("8, and 9 times 99", 899, () -> x.amount(9));
+        Check.due("the same by tree", 899, () -> x.amountByTree(9));
+        Check.due("the last resource", 10, () -> x.amountByTree(11));
+        Check.due("net", 28 + 899 + 99 + 10, () -> x.net());
+        Check.due("the last trade", 4 + 10, () -> x.costOfTrade(5));
+        Check.due("the last line", 10 * 91, () -> x.costOfLine(9));
+        Check.due("the last of the order", 2, () -> x.dearest(9));
+        Check.due("cheapestVariants", 0, () -> x.cheapestVariants());
+        Check.dueFlag("isSound", true, () -> x.isSound());
+    }
+
     private static void dearest() {
         Takeoff x = house();
         x.addResource(Takeoff.MATERIAL, 9999, 0, 1);
@@ -164,6 +273,13 @@ public final class CostsTest {
         x.setPrice(0, 0);
         Check.due("800 is the next", 2, () -> x.dearest(1));
         Check.thrown("one less", NoSuchElementException.class, () -> x.dearest(2));
+        Takeoff y = new Takeoff();
+        y.addResource(Takeoff.PLANT, 1, 0, 1);
+        y.addItem(0);
+        y.addUse(0, 0, 1);
+        y.addLine(0);
+        y.addRow(0, 'n', 1, 0, 0, 0);
+        Check.due("a cost of 1", 0, () -> y.dearest(0));
     }
 
     private static void dearestOfEqualOnes() {

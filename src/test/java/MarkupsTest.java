@@ -99,7 +99,11 @@ public final class MarkupsTest {
             long want = due[bit];
             Check.due("bit " + bit, want, () -> x.markup(0));
             x.addMarkup(50, 16);
+            x.addMarkup(50, 32);
+            x.addMarkup(50, 64);
             Check.due("half of it", want / 2, () -> x.markup(1));
+            Check.due("half of that", want / 4, () -> x.markup(2));
+            Check.due("half of that again", want / 8, () -> x.markup(3));
         }
     }
 }

@@ -274,6 +274,13 @@ public final class VariantsTest {
         y.replaceItem(3, 0, 2);
         y.turn(3, true);
         Check.due("the lowest number", 2, () -> y.cheapestVariants());
+        Takeoff z = threeItems();
+        z.addVariant();
+        z.addVariant();
+        z.replaceItem(0, 0, 1);
+        z.setPrice(1, 11);
+        z.turn(1, true);
+        Check.due("none rather than the equal one that is on", 0, () -> z.cheapestVariants());
     }
 
     private static void cheapestOfThoseThatFit() {
