@@ -888,6 +888,10 @@ public final class Takeoff {
 
         long packsBought(int resource) {
             Resource bought = plan.resources.get(resource);
+            // No such pack gets in, but a divisor is looked at where it divides.
+            if (bought.pack < 1) {
+                return 0;
+            }
             long wasted = (amounts[resource] * bought.waste + 99) / 100;
             return (amounts[resource] + wasted + bought.pack - 1) / bought.pack;
         }

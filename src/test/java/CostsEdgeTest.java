@@ -4,6 +4,7 @@ public final class CostsEdgeTest {
         amountResource();
         amountOfNothing();
         amountBeyondInt();
+        amountByTreeOfTheSetThatIsOn();
         packsResource();
         packsWasteRoundedUp();
         packsAsFewAsCanBe();
@@ -107,6 +108,13 @@ public final class CostsEdgeTest {
         Edge.answer("30 the same by tree", GREAT_AMOUNT, CostsEdgeTest::great, x -> x.amountByTree(0));
         Edge.answer("29 beyond an int", 9 * GREAT_AMOUNT * 3, CostsEdgeTest::greater, x -> x.amount(0));
         Edge.answer("30 beyond an int", 9 * GREAT_AMOUNT * 3, CostsEdgeTest::greater, x -> x.amountByTree(0));
+    }
+
+    /** Promise 25 tries other sets, and promise 24 one of them; what is on is asked all the same. */
+    private static void amountByTreeOfTheSetThatIsOn() {
+        Edge.answers("30 asked first of all", "42", Houses::some, x -> x.amountByTree(4));
+        Edge.answers("30 asked behind other sets", "1 42 42", Houses::some, x -> x.cheapestVariants(),
+            x -> x.amountByTree(4), x -> x.amount(4));
     }
 
     /** The same with nine of the PLANT in a crew, in three works. */

@@ -19,15 +19,14 @@ public final class MarkupsEdgeTest {
         Check.end();
     }
 
-    /** One unit each of a MATERIAL, a LABOUR and a PLANT for 10, 200 and 3000 cents; extra are 40000. */
+    /** One unit each of a MATERIAL, a LABOUR and a PLANT for 10, 200 and 3000 cents, and so many mark-ups. */
     private static Takeoff bases(int markups) {
         Takeoff x = new Takeoff();
         x.addResource(Takeoff.MATERIAL, 10, 0, 1);
         x.addResource(Takeoff.LABOUR, 200, 0, 1);
         x.addResource(Takeoff.PLANT, 3000, 0, 1);
-        x.addResource(Takeoff.MATERIAL, 0, 0, 1);
         x.addItem(0);
-        for (int k = 0; k < 4; k++) {
+        for (int k = 0; k < 3; k++) {
             x.addUse(0, k, 1);
         }
         x.addLine(0);
@@ -179,7 +178,7 @@ public final class MarkupsEdgeTest {
             x -> x.addMarkup(50, 3), x -> x.markup(0), x -> x.markup(1));
     }
 
-    /** The MATERIAL for nothing is used no more; 9 more PLANTs, and a LABOUR with waste, are for 40000 cents extra. */
+    /** The same costs, and 40000 cents extra: 50 LABOURs and 10 PLANTs more than are needed. */
     private static Takeoff withExtra() {
         Takeoff x = new Takeoff();
         x.addResource(Takeoff.MATERIAL, 10, 0, 1);

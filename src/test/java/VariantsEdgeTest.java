@@ -26,6 +26,7 @@ public final class VariantsEdgeTest {
         differenceVariant();
         differenceOfNothing();
         differenceSigns();
+        differenceOfEach();
         differenceNeedsItself();
         differenceTooDeep();
         cheapestOfNone();
@@ -384,6 +385,14 @@ public final class VariantsEdgeTest {
         Edge.answers("24 less by 1", "-1 false 1", () -> swap(2, 1, false), x -> x.difference(0),
             x -> x.turn(0, true), x -> x.difference(0));
         Edge.answer("24 with mark-ups", 34 + 17, VariantsEdgeTest::dearer, x -> x.difference(0));
+    }
+
+    private static void differenceOfEach() {
+        Edge.answers("24 each of four", "-1 -20 3 40", () -> choices(1, 20, -3, -40), x -> x.difference(0),
+            x -> x.difference(1), x -> x.difference(2), x -> x.difference(3));
+        Edge.answers("24 each of four, two of them on", "false false -1 20 3 -40", () -> choices(1, 20, -3, -40),
+            x -> x.turn(1, true), x -> x.turn(3, true), x -> x.difference(0), x -> x.difference(1),
+            x -> x.difference(2), x -> x.difference(3));
     }
 
     /** Costs of 33 cents and 16 of a mark-up, or with item 2 replaced by one for 34 more, 67 and 33. */
