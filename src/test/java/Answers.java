@@ -23,6 +23,11 @@ final class Answers {
         return text.toString();
     }
 
+    /** Asks once whatever can be asked; what is answered is not looked at. */
+    static void askAll(Takeoff x) {
+        new Answers(x, new StringBuilder()).ask();
+    }
+
     private static Answers after(Supplier<Takeoff> make, Edge.Call before, StringBuilder text) {
         Takeoff x = make.get();
         Edge.outcome(x, before);

@@ -5,6 +5,7 @@ public final class CostsEdgeTest {
         amountOfNothing();
         amountBeyondInt();
         amountByTreeOfTheSetThatIsOn();
+        amountOfOneThatIsReplaced();
         packsResource();
         packsWasteRoundedUp();
         packsAsFewAsCanBe();
@@ -22,6 +23,7 @@ public final class CostsEdgeTest {
         dearestSameCost();
         dearestMoreThanZero();
         dearestOfTwelve();
+        dearestBeyondInt();
         shareKind();
         shareNetZero();
         shareEdges();
@@ -115,6 +117,16 @@ public final class CostsEdgeTest {
         Edge.answers("30 asked first of all", "42", Houses::some, x -> x.amountByTree(4));
         Edge.answers("30 asked behind other sets", "1 42 42", Houses::some, x -> x.cheapestVariants(),
             x -> x.amountByTree(4), x -> x.amount(4));
+    }
+
+    /** "The amount of a resource is the number of its units that are needed": of itself, not of what is meant for it */
+    private static void amountOfOneThatIsReplaced() {
+        Edge.answers("29 one that is replaced, and the one by which it is", "0 42", Houses::some, x -> x.amount(1),
+            x -> x.amount(4));
+        Edge.answers("30 one that is replaced, and the one by which it is", "0 42", Houses::some,
+            x -> x.amountByTree(1), x -> x.amountByTree(4));
+        Edge.answers("31 one that is replaced, and the one by which it is", "0 5", Houses::some, x -> x.packs(1),
+            x -> x.packs(4));
     }
 
     /** The same with nine of the PLANT in a crew, in three works. */
@@ -342,6 +354,26 @@ public final class CostsEdgeTest {
         ranks("twelve, rising", "11 10 9 8 7 6 5 4 3 2 1 0", 1, 2, 3, 4, 5, 6, 7, 8, 9, 10, 11, 12);
         ranks("twelve, falling", "0 1 2 3 4 5 6 7 8 9 10 11", 12, 11, 10, 9, 8, 7, 6, 5, 4, 3, 2, 1);
         ranks("twelve, the same", "0 1 2 3 4 5 6 7 8 9 10 11", 9, 9, 9, 9, 9, 9, 9, 9, 9, 9, 9, 9);
+    }
+
+    /** One resource that costs 2 to the power of 32, which is 0 as an int, and one for a single cent. */
+    private static Takeoff powerOfTwo(int price) {
+        Takeoff x = units(price, 0, 1, 8192);
+        x.dropLast(0);
+        x.addUse(0, 0, 64);
+        x.addResource(Takeoff.MATERIAL, 1, 0, 1);
+        x.addItem(0);
+        x.addUse(1, 1, 1);
+        x.addLine(1);
+        x.addRow(1, 'n', 1, 0, 0, 0);
+        return x;
+    }
+
+    private static void dearestBeyondInt() {
+        Edge.answers("38 a cost of 2 to the power of 32", "4294967297 0 1", () -> powerOfTwo(8192), x -> x.net(),
+            x -> x.dearest(0), x -> x.dearest(1));
+        Edge.answers("38 a cost that is less than 0 as an int", "2147483649 0 1", () -> powerOfTwo(4096),
+            x -> x.net(), x -> x.dearest(0), x -> x.dearest(1));
     }
 
     // ---- promise 39

@@ -52,8 +52,13 @@ final class Edge {
 
     /** A call that changes nothing, whether it answers or throws. */
     static void asks(String what, Supplier<Takeoff> make, Call call) {
-        String[] due = Answers.of(make, x -> null).split("; ");
-        String[] got = Answers.of(make, call).split("; ");
+        same(what, Answers.of(make, x -> null), Answers.of(make, call));
+    }
+
+    /** Compares all answers of two objects, and tells the first in which they differ. */
+    static void same(String what, String dueAnswers, String gotAnswers) {
+        String[] due = dueAnswers.split("; ");
+        String[] got = gotAnswers.split("; ");
         int differs = 0;
         while (differs < due.length && differs < got.length && due[differs].equals(got[differs])) {
             differs++;

@@ -1,10 +1,15 @@
+import java.io.IOException;
 import java.lang.reflect.Constructor;
 import java.lang.reflect.Field;
 import java.lang.reflect.Method;
 import java.lang.reflect.Modifier;
+import java.nio.file.Files;
+import java.nio.file.Path;
 import java.util.Arrays;
 import java.util.Set;
 import java.util.TreeSet;
+import java.util.regex.Matcher;
+import java.util.regex.Pattern;
 
 /** The public face, its constants, and promise 1: what a new object answers. */
 public final class FaceTest {
@@ -55,8 +60,9 @@ public final class FaceTest {
         "boolean isSound()",
     };
 
-    public static void main(String[] args) {
+    public static void main(String[] args) throws IOException {
         face();
+        asInTheDocument();
         constants();
         newObject();
         Check.end();
@@ -93,6 +99,24 @@ public final class FaceTest {
         }
         Check.compare("the constants' types", "[public static final int Takeoff.LABOUR,"
             + " public static final int Takeoff.MATERIAL, public static final int Takeoff.PLANT]", fields.toString());
+    }
+
+    /** Word by word what stands under 'The public face', with the names of the parameters. */
+    private static void asInTheDocument() throws IOException {
+        String document = Files.readString(Path.of("..", "shared", "DOC.md"));
+        String face = document.substring(document.indexOf("```java"), document.indexOf("## Terms"));
+        String program = Files.readString(Path.of("src", "main", "java", "Takeoff.java"));
+        Check.compare("all that is public", publicIn(face).toString(), publicIn(program).toString());
+        Check.compare("so many are public", "45", String.valueOf(publicIn(face).size()));
+    }
+
+    private static Set<String> publicIn(String text) {
+        Set<String> found = new TreeSet<>();
+        Matcher matcher = Pattern.compile("(?m)^ *(public [^;{]*)[;{]").matcher(text);
+        while (matcher.find()) {
+            found.add(matcher.group(1).trim().replaceAll("\\s+", " "));
+        }
+        return found;
     }
 
     private static String describe(Method method) {

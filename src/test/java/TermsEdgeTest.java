@@ -10,10 +10,12 @@ public final class TermsEdgeTest {
         wherePartsAndLines();
         whereUsesAndCrews();
         membersThatMeanTheSame();
+        enteredAsTheyStand();
         tradesOfItemsThatAreMeant();
         quantityOfZeroNeedsNothing();
         objectsApart();
         manyRefusedCalls();
+        useOf512Calls();
         Check.end();
     }
 
@@ -113,6 +115,13 @@ public final class TermsEdgeTest {
     private static void notReplacedOnceMore() {
         Edge.answer("items, neither by the same variant nor by another", 11, () -> inARow(true), x -> x.net());
         Edge.answer("resources, neither by the same nor by another", 11, () -> inARow(false), x -> x.net());
+        for (boolean byItems : new boolean[] {true, false}) {
+            Edge.answers("every answer, by items " + byItems, "11 0 1 0 0 1 0 11 true", () -> inARow(byItems),
+                x -> x.costOfLine(0), x -> x.amount(0), x -> x.amount(1), x -> x.amount(2), x -> x.amountByTree(0),
+                x -> x.amountByTree(1), x -> x.amountByTree(2), x -> x.costOfKind(Takeoff.PLANT), x -> x.isSound());
+        }
+        Edge.answers("the trade of the item that is meant", "0 11 0 0", () -> inARow(true), x -> x.costOfTrade(0),
+            x -> x.costOfTrade(1), x -> x.costOfTrade(2), x -> x.costOfTrade(3));
         Edge.answer("two that replace each other", 3 * 11 + 10, TermsEdgeTest::eachOther, x -> x.net());
     }
 
@@ -152,6 +161,20 @@ public final class TermsEdgeTest {
         };
         Edge.answers("in a use and in a crew", "0 16 176 true 16 0 160", make, x -> x.amount(0), x -> x.amount(1),
             x -> x.net(), x -> x.turn(0, false), x -> x.amount(0), x -> x.amount(1), x -> x.net());
+    }
+
+    /** "Wherever an item stands .. the item that is meant is the one by which the variant .. that is on": when asked */
+    private static void enteredAsTheyStand() {
+        Edge.answers("a line that is added while it is replaced", "1 1 22 true 20", () -> choices(true, 1),
+            x -> x.addLine(0), x -> x.addRow(1, 'n', 1, 0, 0, 0), x -> x.net(), x -> x.turn(0, false),
+            x -> x.net());
+        Edge.answers("a part that is added while it is replaced", "2 25 true 24", () -> choices(true, 1),
+            x -> x.addPart(4, 0, 1), x -> x.unitCost(4), x -> x.turn(0, false), x -> x.unitCost(4));
+        Edge.answers("a use that is added while it is replaced", "2 25 true 24", () -> choices(false, 1),
+            x -> x.addUse(4, 0, 1), x -> x.unitCost(4), x -> x.turn(0, false), x -> x.unitCost(4));
+        Edge.answers("a member that is added while it is replaced", "0 1 2 25 true 24", () -> choices(false, 1),
+            x -> x.addCrew(), x -> x.addMember(0, 0, 1), x -> x.addWork(4, 0, 1), x -> x.unitCost(4),
+            x -> x.turn(0, false), x -> x.unitCost(4));
     }
 
     private static void membersThatMeanTheSame() {
@@ -204,5 +227,17 @@ public final class TermsEdgeTest {
             }
             return null;
         });
+    }
+
+    /** "An object is used for at most 512 calls after it has been made": the last of them is answered like the first. */
+    private static void useOf512Calls() {
+        Takeoff x = choices(true, 0);
+        // 29 calls make it, 482 more add and drop a row, and the last one asks.
+        for (int k = 0; k < 241; k++) {
+            int times = 1 + k % 99;
+            Check.due("row added, round " + k, 1 + times, () -> x.addRow(0, 'n', times, 0, 0, 0));
+            Check.due("row dropped, round " + k, 1, () -> x.dropRow(1));
+        }
+        Check.due("the 512th call", 10, () -> x.net());
     }
 }

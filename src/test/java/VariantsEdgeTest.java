@@ -23,17 +23,20 @@ public final class VariantsEdgeTest {
         turnNeedsItself();
         turnTooDeep();
         turnOnlyWhatIsMeant();
+        turnWhereEmptySetDoesNotFit();
         differenceVariant();
         differenceOfNothing();
         differenceSigns();
         differenceOfEach();
         differenceNeedsItself();
         differenceTooDeep();
+        differenceBeyondInt();
         cheapestOfNone();
         cheapestOfFour();
         cheapestLowestNumber();
         cheapestOfThoseThatFit();
         cheapestTotal();
+        cheapestBeyondInt();
         Check.end();
     }
 
@@ -361,6 +364,18 @@ public final class VariantsEdgeTest {
         return x;
     }
 
+    /** The set that is on after the call counts alone, whether the empty set fits or not. */
+    private static void turnWhereEmptySetDoesNotFit() {
+        Supplier<Takeoff> make = () -> {
+            Takeoff x = ringIfOff();
+            x.addVariant();
+            x.replaceItem(1, 5, 4);
+            return x;
+        };
+        Edge.answers("23 another one, on and off", "false true 2 -1", make, x -> x.turn(1, true), x -> x.turn(1, false),
+            x -> x.replaceItem(1, 2, 1), x -> x.difference(1));
+    }
+
     // ---- promise 24
 
     /** "Throws IndexOutOfBoundsException if there is no such variant" */
@@ -419,6 +434,26 @@ public final class VariantsEdgeTest {
         Edge.refused("24 off, depth 4", Edge.UNSUPPORTED, () -> chain(1, true), x -> x.difference(0));
     }
 
+    /** 10000 units of 99 MATERIALs for 9999 cents, or by variant 0 of those for 1 cent. */
+    private static Takeoff great() {
+        Takeoff x = new Takeoff();
+        x.addResource(Takeoff.MATERIAL, 9999, 0, 1);
+        x.addResource(Takeoff.MATERIAL, 1, 0, 1);
+        x.addItem(0);
+        x.addUse(0, 0, 99);
+        x.addLine(0);
+        Houses.measure(x, 0, 10000);
+        x.addVariant();
+        x.replaceResource(0, 0, 1);
+        return x;
+    }
+
+    private static void differenceBeyondInt() {
+        long difference = 990000L * 9998;
+        Edge.answers("24 beyond an int", -difference + " false " + difference, VariantsEdgeTest::great,
+            x -> x.difference(0), x -> x.turn(0, true), x -> x.difference(0));
+    }
+
     // ---- promise 25
 
     private static void cheapestOfNone() {
@@ -465,6 +500,22 @@ public final class VariantsEdgeTest {
         Edge.answers("25 though others are on", "false false 2", () -> choices(0, 1, 0, 0), x -> x.turn(0, true),
             x -> x.turn(2, true), x -> x.cheapestVariants());
         Edge.answer("25 one or the other", 1, VariantsEdgeTest::eitherOne, x -> x.cheapestVariants());
+        Edge.answers("25 two with lower numbers before one with a higher", "200 -2 false -1 0 true 3",
+            VariantsEdgeTest::twoOrOne, x -> x.total(), x -> x.difference(2), x -> x.turn(0, true),
+            x -> x.difference(1), x -> x.difference(0) - 1, x -> x.turn(0, false), x -> x.cheapestVariants());
+    }
+
+    /** Variants 0 and 1 are cheaper by 1 each in lines of their own, and variant 2 alone is so by 2. */
+    private static Takeoff twoOrOne() {
+        Takeoff x = choices(1, 1);
+        x.addVariant();
+        for (int k = 0; k < 2; k++) {
+            x.addResource(Takeoff.MATERIAL, 98 + 2 * k, 0, 1);
+            x.addItem(0);
+            x.addUse(2 + k, 4 + k, 1);
+            x.replaceItem(2, k, 2 + k);
+        }
+        return x;
     }
 
     /** Each of two variants replaces item 2 by item 1. */
@@ -512,5 +563,22 @@ public final class VariantsEdgeTest {
         x.addUse(1, 2, 1);
         x.replaceItem(0, 0, 1);
         return x;
+    }
+
+    /** Variant 0 for 1 cent each; without it the total is 2 to the power of 32, which is 0 as an int. */
+    private static void cheapestBeyondInt() {
+        Supplier<Takeoff> make = () -> {
+            Takeoff x = new Takeoff();
+            x.addResource(Takeoff.MATERIAL, 8192, 0, 1);
+            x.addResource(Takeoff.MATERIAL, 1, 0, 1);
+            x.addItem(0);
+            x.addUse(0, 0, 64);
+            x.addLine(0);
+            Houses.measure(x, 0, 8192);
+            x.addVariant();
+            x.replaceResource(0, 0, 1);
+            return x;
+        };
+        Edge.answers("25 beyond an int", "4294967296 1", make, x -> x.total(), x -> x.cheapestVariants());
     }
 }
