@@ -263,7 +263,10 @@ public final class Takeoff {
         checkVariant(variant);
         int turned = variantsOn ^ (1 << variant);
         checkFits(turned);
-        return totalWith(turned) - totalWith(variantsOn);
+        workOut(turned);
+        long totalTurned = estimate.totalCost();
+        workOut(variantsOn);
+        return totalTurned - estimate.totalCost();
     }
 
     public int cheapestVariants() {
@@ -363,7 +366,8 @@ public final class Takeoff {
     }
 
     public long total() {
-        return totalWith(variantsOn);
+        workOut(variantsOn);
+        return estimate.totalCost();
     }
 
     public int dearest(int rank) throws NoSuchElementException {
@@ -406,12 +410,6 @@ public final class Takeoff {
     private void workOut(int set) {
         estimate.choose(set);
         estimate.workOutCosts();
-    }
-
-    private long totalWith(int set) {
-        estimate.choose(set);
-        estimate.workOutCosts();
-        return estimate.totalCost();
     }
 
     private int addComponent(int item, Component component) {

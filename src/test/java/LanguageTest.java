@@ -9,6 +9,7 @@ import java.util.HashSet;
 import java.util.Map;
 import java.util.Set;
 import java.util.TreeMap;
+import java.util.TreeSet;
 import java.util.regex.Matcher;
 import java.util.regex.Pattern;
 
@@ -52,7 +53,8 @@ public final class LanguageTest {
             count(code, "throw new (" + EXCEPTIONS + ")Exception\\(\"\"\\);"));
         same("every loop counts to a bound", count(code, "\\bfor\\b"),
             count(code, "for \\(int (\\w+) = [^;:]+; \\1 [<>]=? [^;]+; \\1(\\+\\+|--)\\)"));
-        methods(code);
+        Check.compare("what is called of the library", "[add, fill, get, isEmpty, max, remove, size]",
+            libraryCalls(code, methods(code)).toString());
         fields();
         Check.end();
     }
@@ -105,8 +107,8 @@ public final class LanguageTest {
         return count;
     }
 
-    /** A method or a constructor is a head with braces behind it; it ends where its braces are closed. */
-    private static void methods(String code) {
+    /** Answers their names. A method or a constructor is a head with braces behind it; it ends where its braces are closed. */
+    private static Set<String> methods(String code) {
         String head = "(?m)^ +(?:(?:public|private|static|final) )*(?:[\\w\\[\\]<>]+ )?(\\w+)\\(([^()]*)\\)"
             + "(?:\\s+throws [\\w,\\s]+)?\\s*\\{";
         Matcher matcher = Pattern.compile(head).matcher(code);
@@ -128,6 +130,19 @@ public final class LanguageTest {
             Check.compare(name + " calls at most eight deep", "true",
                 String.valueOf(callsFrom(name, bodies, new HashSet<>()) < 8));
         }
+        return bodies.keySet();
+    }
+
+    /** What is called by a dot and is no method of the file. */
+    private static Set<String> libraryCalls(String code, Set<String> own) {
+        Set<String> found = new TreeSet<>();
+        Matcher matcher = Pattern.compile("\\.(\\w+)\\(").matcher(code);
+        while (matcher.find()) {
+            if (!own.contains(matcher.group(1))) {
+                found.add(matcher.group(1));
+            }
+        }
+        return found;
     }
 
     /** Of the methods that stand open, none is counted a second time: that would be recursion. */
